@@ -16,8 +16,8 @@ final class Due {
         }
     }
 
-    void holds(String what, boolean true_) {
-        is(what, true_ ? 1 : 0, 1);
+    void holds(String what, boolean truth) {
+        is(what, truth ? 1 : 0, 1);
     }
 
     void end() {
