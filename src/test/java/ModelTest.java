@@ -1,7 +1,9 @@
 /** All promises: long runs of mixed calls, each answer compared with that of a model on the machine's own arrays. */
 public final class ModelTest {
     private static final Due DUE = new Due("ModelTest");
-    private static final int RUNS = 1500, CALLS = 512, LAST = 23;
+    // What 512 calls leave when each cell has been lifted and told at the end.
+    private static final int CALLS = 512 - 10 * 12 * 2;
+    private static final int RUNS = 2500, LAST = 23;
     private static final long[] VALUES = {0, 1, -1, 127, 128, 255, 32768, 65535, 65536, (1L << 24) + 1, (1L << 24) + 3,
         Integer.MAX_VALUE, Integer.MIN_VALUE, 1L << 31, (1L << 53) + 1, (1L << 53) + 3, Long.MAX_VALUE, Long.MIN_VALUE};
     private static final int[] ODD = {-1, 10, 11, 12, 13, Integer.MAX_VALUE, Integer.MIN_VALUE};
@@ -17,7 +19,6 @@ public final class ModelTest {
         for (int run = 0; run < RUNS; run++) {
             new ModelTest(run).compare(run);
         }
-        everyCallWithOddArguments();
         DUE.end();
     }
 
@@ -72,23 +73,7 @@ public final class ModelTest {
         }
     }
 
-    private static void everyCallWithOddArguments() {
-        int[] odd = {Integer.MIN_VALUE, -1, 0, 1, 5, 6, 9, 10, 12, 13, Integer.MAX_VALUE};
-        for (int number = 0; number <= LAST; number++) {
-            DoseRacks real = new DoseRacks();
-            ReflectedRacks model = new ReflectedRacks();
-            for (int a : odd) {
-                for (int b : odd) {
-                    for (int c : odd) {
-                        DUE.is(said(number, a, b, c, Long.MIN_VALUE), ReflectedRacks.callReal(real, number, a, b, c, Long.MIN_VALUE),
-                            model.call(number, a, b, c, Long.MIN_VALUE));
-                    }
-                }
-            }
-        }
-    }
-
-    private static String said(int number, int a, int b, int c, long v) {
+    static String said(int number, int a, int b, int c, long v) {
         String[] names = {"tray", "vial", "hold", "clear", "sort", "length", "ask", "fill", "pour", "total", "lift",
             "take", "think", "lay", "set", "hand", "value", "alike", "undo", "watch", "patrol", "told", "fault", "count"};
         return names[number] + " of a=" + a + " b=" + b + " c=" + c + " v=" + v;
