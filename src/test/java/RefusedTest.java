@@ -21,6 +21,7 @@ public final class RefusedTest {
         firstAndLastRack();
         firstAndLastWatch();
         outsideKinds();
+        firstAndLastKind();
         outsideTrays();
         outsideWhats();
         fullTrays();
@@ -177,6 +178,19 @@ public final class RefusedTest {
                 outside(k + "pour into rack " + rack, x -> x.pour(Scene.INTS, r, kind));
             }
             outside(k + "think", x -> x.think(kind, 1));
+        }
+    }
+
+    private static void firstAndLastKind() {
+        for (int kind = 1; kind <= 8; kind += 7) {
+            DoseRacks x = new DoseRacks();
+            String k = "kind " + kind + ": ";
+            x.tray(0, kind, 1);
+            DUE.is(k + "ask", x.ask(0, 0, kind), 0);
+            DUE.is(k + "fill", x.fill(0, 0, kind, 1), 1);
+            DUE.is(k + "pour", x.pour(0, 0, kind), 1);
+            DUE.is(k + "think", x.think(kind, 1), 1);
+            DUE.is(k + "hand", x.hand(), kind);
         }
     }
 
