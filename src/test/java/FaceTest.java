@@ -72,8 +72,24 @@ public final class FaceTest {
         }
     }
 
+    /** Rules 1, 5 and 11: no name of the face inside, no state that all objects share, few fields. */
+    private static void membersOf(Class<?> inside) {
+        for (var method : inside.getDeclaredMethods()) {
+            for (String face : METHODS) {
+                DUE.holds(method + " is not named as " + face, !face.contains(" " + method.getName() + "("));
+            }
+        }
+        int held = 0;
+        for (var field : inside.getDeclaredFields()) {
+            DUE.holds(field + " is of its object", !Modifier.isStatic(field.getModifiers()));
+            held++;
+        }
+        DUE.holds(inside + " has few fields", held <= 20);
+    }
+
     private static void classesInside() {
         for (var inside : DoseRacks.class.getDeclaredClasses()) {
+            membersOf(inside);
             int modifiers = inside.getModifiers();
             DUE.holds(inside + " is static and not public",
                 Modifier.isStatic(modifiers) && !Modifier.isPublic(modifiers) && !Modifier.isProtected(modifiers));
