@@ -20,6 +20,13 @@ final class Due {
         is(what, truth ? 1 : 0, 1);
     }
 
+    /** What a WATCH tells of itself, from told(watch, 0) on. */
+    void told(DoseRacks x, int watch, String what, int... want) {
+        for (int i = 0; i < want.length; i++) {
+            is(what + ": told(" + watch + ", " + i + ")", x.told(watch, i), want[i]);
+        }
+    }
+
     void end() {
         System.out.println(test + ": " + calls + " answers, " + wrong + " not as due");
         if (wrong != 0 || calls == 0) {

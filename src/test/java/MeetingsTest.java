@@ -29,12 +29,6 @@ public final class MeetingsTest {
         DUE.end();
     }
 
-    private static void told(DoseRacks x, int watch, String what, int... want) {
-        for (int i = 0; i < want.length; i++) {
-            DUE.is(what + ": told(" + watch + ", " + i + ")", x.told(watch, i), want[i]);
-        }
-    }
-
     /** In RACKS 0, 1, 9, THE HAND, two cells, under WATCHES 0, 5, and in notes: as what is changed, and as what a cell had. */
     private static DoseRacks withTrayInEveryPlace() {
         DoseRacks x = new DoseRacks();
@@ -66,8 +60,8 @@ public final class MeetingsTest {
         DUE.is("WATCH 0 calls, WATCH 5 does not", x.patrol(), 1);
         DUE.is("fill by another RACK", x.fill(9, 1, 4, 25), 1);
         DUE.is("both call", x.patrol(), 2);
-        told(x, 0, "WATCH 0", 2, 0, 0, 10);
-        told(x, 5, "WATCH 5", 1, 0, 0, 20);
+        DUE.told(x, 0, "WATCH 0", 2, 0, 0, 10);
+        DUE.told(x, 5, "WATCH 5", 1, 0, 0, 20);
         x.lift(2, 2);
         x.set(4);
         DUE.is("the same by its cell", x.ask(4, 1, 6), 25);
@@ -126,8 +120,8 @@ public final class MeetingsTest {
         x.watch(0, 2, 1, -100);
         x.watch(1, 3, 2, -100);
         DUE.is("a VIAL is no NUMBER", x.patrol(), 0);
-        told(x, 0, "over a VIAL", 0, 1, 0, -100);
-        told(x, 1, "over no cell of a TRAY of AMPOULES", 0, 1, 0, -100);
+        DUE.told(x, 0, "over a VIAL", 0, 1, 0, -100);
+        DUE.told(x, 1, "over no cell of a TRAY of AMPOULES", 0, 1, 0, -100);
         x.take(1);
         x.lay(3, 0);
         x.clear(0);
@@ -294,12 +288,12 @@ public final class MeetingsTest {
             DUE.is("above both LIMITS", x.patrol(), 2);
             x.undo();
             DUE.is("undone: above one", x.patrol(), 1);
-            told(x, 3, "round " + round, round, 0, 0, 4);
-            told(x, 4, "round " + round, 2 * round, 0, 0, -1);
+            DUE.told(x, 3, "round " + round, round, 0, 0, 4);
+            DUE.told(x, 4, "round " + round, 2 * round, 0, 0, -1);
         }
         x.watch(3, 0, 1, 4);
-        told(x, 3, "begun again", 0, 0, 0, 4);
-        told(x, 4, "the other one goes on", 10, 0, 0, -1);
+        DUE.told(x, 3, "begun again", 0, 0, 0, 4);
+        DUE.told(x, 4, "the other one goes on", 10, 0, 0, -1);
     }
 
     private static void watchOfATrayInNoRack() {
@@ -320,9 +314,9 @@ public final class MeetingsTest {
         x.take(9);
         x.clear(0);
         DUE.is("the TRAY that has it is in no RACK, either", x.patrol(), 1);
-        told(x, 0, "the cell", 2, 0, 0, 0);
-        told(x, 1, "no such cell", 0, 0, 3, 0);
-        told(x, 2, "the cell that has it", 0, 3, 0, 0);
+        DUE.told(x, 0, "the cell", 2, 0, 0, 0);
+        DUE.told(x, 1, "no such cell", 0, 0, 3, 0);
+        DUE.told(x, 2, "the cell that has it", 0, 3, 0, 0);
         DUE.is("no call's faults", x.fault(), 0);
     }
 
@@ -342,10 +336,10 @@ public final class MeetingsTest {
         }
         DUE.is("none is left for it", x.undo(), NONE);
         DUE.is("it calls still", x.patrol(), 1);
-        told(x, 0, "all of them", 41, 0, 0, 7);
+        DUE.told(x, 0, "all of them", 41, 0, 0, 7);
         x.watch(0, 0, 0, 9);
         DUE.is("over the new one, at 10", x.patrol(), 1);
-        told(x, 0, "begun again", 1, 0, 0, 9);
+        DUE.told(x, 0, "begun again", 1, 0, 0, 9);
     }
 
     private static void refusedWatchStaysWithItsTray() {
@@ -360,7 +354,7 @@ public final class MeetingsTest {
         DUE.is("a VIAL there now", x.watch(2, 0, 0, 99), -12);
         DUE.is("no such RACK", x.watch(2, 10, 0, 99), DoseRacks.UNKNOWN);
         DUE.is("it is over the same TRAY", x.patrol(), 1);
-        told(x, 2, "as it was", 2, 0, 0, 49);
+        DUE.told(x, 2, "as it was", 2, 0, 0, 49);
         x.undo();
         DUE.is("and sees it undone", x.patrol(), 0);
     }
@@ -451,7 +445,7 @@ public final class MeetingsTest {
         DUE.is("into itself", x.pour(0, 0, 5), 0);
         DUE.is("total", x.total(0, true), 0);
         x.patrol();
-        told(x, 0, "no such cell", 0, 0, 1, 0);
+        DUE.told(x, 0, "no such cell", 0, 0, 1, 0);
         x.tray(2, 5, 0);
         DUE.is("another one with no CELLS", x.alike(2), 0);
         DUE.is("one note", x.count(5), 1);

@@ -21,24 +21,18 @@ public final class WatchEdgesTest {
         DUE.end();
     }
 
-    private static void told(DoseRacks x, int watch, String what, int... want) {
-        for (int i = 0; i < want.length; i++) {
-            DUE.is(what + ": told(" + watch + ", " + i + ")", x.told(watch, i), want[i]);
-        }
-    }
-
     private static void overNoneAtFirst() {
         DoseRacks x = new DoseRacks();
         DUE.is("patrol() of none", x.patrol(), 0);
         for (int watch = 0; watch < 6; watch++) {
-            told(x, watch, "over none", DoseRacks.NONE, DoseRacks.NONE, DoseRacks.NONE, DoseRacks.NONE);
+            DUE.told(x, watch, "over none", DoseRacks.NONE, DoseRacks.NONE, DoseRacks.NONE, DoseRacks.NONE);
         }
         DUE.is("NONE is no fault", x.fault(), 0);
         x.tray(0, 5, 1);
         x.watch(3, 0, 0, DoseRacks.NONE);
-        told(x, 3, "a LIMIT that is as NONE", 0, 0, 0, DoseRacks.NONE);
-        told(x, 2, "its neighbour", DoseRacks.NONE, DoseRacks.NONE, DoseRacks.NONE, DoseRacks.NONE);
-        told(x, 4, "its neighbour", DoseRacks.NONE, DoseRacks.NONE, DoseRacks.NONE, DoseRacks.NONE);
+        DUE.told(x, 3, "a LIMIT that is as NONE", 0, 0, 0, DoseRacks.NONE);
+        DUE.told(x, 2, "its neighbour", DoseRacks.NONE, DoseRacks.NONE, DoseRacks.NONE, DoseRacks.NONE);
+        DUE.told(x, 4, "its neighbour", DoseRacks.NONE, DoseRacks.NONE, DoseRacks.NONE, DoseRacks.NONE);
     }
 
     private static void anyPlace() {
@@ -49,13 +43,13 @@ public final class WatchEdgesTest {
                 x.tray(0, kind, 2);
                 String what = "cell " + i + " of kind " + kind;
                 DUE.is(what, x.watch(0, 0, i, -1), 1);
-                told(x, 0, what, 0, 0, 0, -1);
+                DUE.told(x, 0, what, 0, 0, 0, -1);
                 DUE.is(what + ": no fault", x.fault(), 0);
                 boolean there = i == 0 || i == 1;
                 boolean numbers = kind <= 8;
                 boolean asked = kind >= 2 && numbers;
                 DUE.is(what + ": patrol()", x.patrol(), there && asked ? 1 : 0);
-                told(x, 0, what, there && asked ? 1 : 0, !numbers || there && !asked ? 1 : 0, numbers && !there ? 1 : 0, -1);
+                DUE.told(x, 0, what, there && asked ? 1 : 0, !numbers || there && !asked ? 1 : 0, numbers && !there ? 1 : 0, -1);
             }
         }
     }
@@ -71,11 +65,11 @@ public final class WatchEdgesTest {
         DUE.is("over NOTHING", x.watch(0, 9, 1, 6), -11);
         DUE.is("over a VIAL", x.watch(1, 1, 0, 6), -12);
         DUE.is("over no RACK", x.watch(0, 10, 1, 6), DoseRacks.UNKNOWN);
-        told(x, 0, "as it was", 1, 0, 0, 4);
-        told(x, 1, "as it was", 0, 0, 1, 4);
+        DUE.told(x, 0, "as it was", 1, 0, 0, 4);
+        DUE.told(x, 1, "as it was", 0, 0, 1, 4);
         DUE.is("patrol()", x.patrol(), 1);
-        told(x, 0, "it goes on", 2, 0, 0, 4);
-        told(x, 1, "it goes on", 0, 0, 2, 4);
+        DUE.told(x, 0, "it goes on", 2, 0, 0, 4);
+        DUE.told(x, 1, "it goes on", 0, 0, 2, 4);
         x.fill(0, 0, 5, 4);
         DUE.is("patrol(): the LIMIT is as it was", x.patrol(), 0);
     }
@@ -86,17 +80,17 @@ public final class WatchEdgesTest {
         x.tray(1, 9, 1);
         x.watch(0, 0, 0, -1);
         x.patrol();
-        told(x, 0, "a CALL", 1, 0, 0, -1);
+        DUE.told(x, 0, "a CALL", 1, 0, 0, -1);
         x.watch(0, 1, 0, -2);
-        told(x, 0, "over another", 0, 0, 0, -2);
+        DUE.told(x, 0, "over another", 0, 0, 0, -2);
         x.patrol();
-        told(x, 0, "a FAULT by KIND", 0, 1, 0, -2);
+        DUE.told(x, 0, "a FAULT by KIND", 0, 1, 0, -2);
         x.watch(0, 0, 7, -3);
-        told(x, 0, "over no cell", 0, 0, 0, -3);
+        DUE.told(x, 0, "over no cell", 0, 0, 0, -3);
         x.patrol();
-        told(x, 0, "a FAULT by PLACE", 0, 0, 1, -3);
+        DUE.told(x, 0, "a FAULT by PLACE", 0, 0, 1, -3);
         x.watch(0, 0, 7, -3);
-        told(x, 0, "over the same again", 0, 0, 0, -3);
+        DUE.told(x, 0, "over the same again", 0, 0, 0, -3);
     }
 
     private static void aboveTheLimit() {
@@ -110,9 +104,9 @@ public final class WatchEdgesTest {
                 x.watch(i, 0, i, 10);
             }
             DUE.is("kind " + kind + ": one of 9, 10, 11 is above 10", x.patrol(), 1);
-            told(x, 0, "9", 0, 0, 0, 10);
-            told(x, 1, "10", 0, 0, 0, 10);
-            told(x, 2, "11", 1, 0, 0, 10);
+            DUE.told(x, 0, "9", 0, 0, 0, 10);
+            DUE.told(x, 1, "10", 0, 0, 0, 10);
+            DUE.told(x, 2, "11", 1, 0, 0, 10);
         }
     }
 
@@ -136,7 +130,7 @@ public final class WatchEdgesTest {
             x.watch(5, 0, 0, (int) row[2]);
             String what = "kind " + kind + " of " + row[1] + " above " + row[2];
             DUE.is(what, x.patrol(), row[3]);
-            told(x, 5, what, (int) row[3], 0, 0, (int) row[2]);
+            DUE.told(x, 5, what, (int) row[3], 0, 0, (int) row[2]);
         }
     }
 
@@ -148,7 +142,7 @@ public final class WatchEdgesTest {
             x.patrol();
             x.patrol();
             boolean faulty = kind == 1 || kind > 8;
-            told(x, 0, "kind " + kind, 0, faulty ? 2 : 0, 0, 0);
+            DUE.told(x, 0, "kind " + kind, 0, faulty ? 2 : 0, 0, 0);
         }
     }
 
@@ -158,7 +152,7 @@ public final class WatchEdgesTest {
             x.tray(0, kind, 0);
             DUE.is("watch over no cells", x.watch(0, 0, 0, Integer.MIN_VALUE), 1);
             DUE.is("patrol()", x.patrol(), 0);
-            told(x, 0, "kind " + kind, 0, kind > 8 ? 1 : 0, kind > 8 ? 0 : 1, Integer.MIN_VALUE);
+            DUE.told(x, 0, "kind " + kind, 0, kind > 8 ? 1 : 0, kind > 8 ? 0 : 1, Integer.MIN_VALUE);
         }
     }
 
@@ -171,9 +165,9 @@ public final class WatchEdgesTest {
         x.watch(1, 1, 1, 0);
         x.watch(2, 1, 0, 0);
         x.patrol();
-        told(x, 0, "VIALS, no such cell", 0, 1, 0);
-        told(x, 1, "truths, no such cell", 0, 0, 1);
-        told(x, 2, "truths", 0, 1, 0);
+        DUE.told(x, 0, "VIALS, no such cell", 0, 1, 0);
+        DUE.told(x, 1, "truths, no such cell", 0, 0, 1);
+        DUE.told(x, 2, "truths", 0, 1, 0);
     }
 
     private static void noCallsFaults() {
@@ -184,8 +178,8 @@ public final class WatchEdgesTest {
         x.watch(1, 1, 1, 0);
         for (int round = 1; round <= 20; round++) {
             DUE.is("patrol()", x.patrol(), 0);
-            told(x, 0, "round " + round, 0, round, 0);
-            told(x, 1, "round " + round, 0, 0, round);
+            DUE.told(x, 0, "round " + round, 0, round, 0);
+            DUE.told(x, 1, "round " + round, 0, 0, round);
         }
         DUE.is("fault()", x.fault(), 0);
         for (int what = 2; what <= 4; what++) {
@@ -215,7 +209,7 @@ public final class WatchEdgesTest {
         DUE.is("that very one in no RACK", x.patrol(), 1);
         x.undo();
         DUE.is("its cell is as it was: undone", x.patrol(), 0);
-        told(x, 0, "both", 2, 0, 0, 10);
+        DUE.told(x, 0, "both", 2, 0, 0, 10);
     }
 
     private static void severalOverOneCell() {
@@ -229,7 +223,7 @@ public final class WatchEdgesTest {
             DUE.is("how many CALLS came of " + v, x.patrol(), v);
         }
         for (int watch = 0; watch < 6; watch++) {
-            told(x, watch, "watch " + watch, 6 - watch, 0, 0, watch);
+            DUE.told(x, watch, "watch " + watch, 6 - watch, 0, 0, watch);
         }
     }
 
@@ -241,7 +235,7 @@ public final class WatchEdgesTest {
         x.watch(2, 0, 4, -1);
         x.watch(5, 0, 0, -1);
         DUE.is("those ahead with FAULTS, or over none, stop nothing", x.patrol(), 1);
-        told(x, 5, "the last one", 1, 0, 0);
+        DUE.told(x, 5, "the last one", 1, 0, 0);
     }
 
     // ---- fault, count
